@@ -58,7 +58,7 @@ public final class ReductionFinder {
     private final IntMachine intMachine = new IntMachine(data);
     private final FloatMachine floatMachine = new FloatMachine(data);
     private Program program;
-    private Program savedProgram;
+    private Program savedProgram = null;
     private int fault = NONE;
     private int cursorVariable = NONE;
     private int cursorPosition = 0;
@@ -69,7 +69,6 @@ public final class ReductionFinder {
             programs[slot] = new Program();
         }
         program = programs[0];
-        savedProgram = null;
     }
 
     // ---- Texts and data
@@ -249,7 +248,8 @@ public final class ReductionFinder {
 
     // ---- Execution
 
-    public int execute(int order, int width) throws IllegalArgumentException, UnsupportedOperationException, IllegalStateException {
+    public int execute(int order, int width)
+            throws IllegalArgumentException, UnsupportedOperationException, IllegalStateException {
         checkOrder(order, width);
         checkOperators();
         checkParallel(order);
@@ -275,7 +275,8 @@ public final class ReductionFinder {
         return floatMachine.rows[Machine.KEPT][variable];
     }
 
-    public double difference(int variable) throws IndexOutOfBoundsException, IllegalStateException, UnsupportedOperationException {
+    public double difference(int variable)
+            throws IndexOutOfBoundsException, IllegalStateException, UnsupportedOperationException {
         checkVariable(variable);
         if (resultMode == NONE || resultMode != data.mode) {
             throw new IllegalStateException("no results of this mode are kept");
@@ -464,7 +465,8 @@ public final class ReductionFinder {
         private int length = 0;
         private int position = 0;
 
-        // The expressions of all statements, one after the other. A text has no more nodes and statements than characters.
+        // The expressions of all statements, one after the other, and where each of them stops.
+        // A text has fewer nodes and statements than characters.
         private final int[] codes = new int[MAX_TEXT];
         private int codeCount = 0;
         private final int[] targets = new int[MAX_TEXT];
@@ -812,7 +814,8 @@ public final class ReductionFinder {
 
         private boolean findChain(int variable, ChainWalk chainWalk) {
             for (int operator = 0; operator < OPERATORS; operator++) {
-                int terms = chainWalk.countTerms(ends[variable], lengths[variable], START + variable, OPERATOR + operator);
+                int terms = chainWalk.countTerms(
+                        ends[variable], lengths[variable], START + variable, OPERATOR + operator);
                 if (terms >= 0) {
                     chainOperators[variable] = operator;
                     chainTerms[variable] = terms;
@@ -967,7 +970,7 @@ public final class ReductionFinder {
         private int countChanged() {
             int changed = 0;
             for (int variable = 0; variable < VARIABLES; variable++) {
-                if (valueOf(KEPT, variable) != data.initials[variable]) {
+                if (valueOf(KEPT, variable) != (double) data.initials[variable]) {
                     changed++;
                 }
             }
