@@ -1,21 +1,5 @@
-import java.util.NoSuchElementException;
-
 /** Tests of the promises one by one, in the order of the document, with answers worked out by hand. */
-public final class PromiseTests {
-    private static int checks = 0;
-    private static int wrong = 0;
-    private static String promise = "";
-
-    private static final Class<?> ARGUMENT = IllegalArgumentException.class;
-    private static final Class<?> STATE = IllegalStateException.class;
-    private static final Class<?> INDEX = IndexOutOfBoundsException.class;
-    private static final Class<?> UNSUPPORTED = UnsupportedOperationException.class;
-    private static final Class<?> NO_ELEMENT = NoSuchElementException.class;
-
-    private interface Call {
-        Object answer();
-    }
-
+public final class PromiseTests extends Checks {
     public static void main(String[] args) {
         newObject();
         append();
@@ -53,76 +37,11 @@ public final class PromiseTests {
         cheapest();
         save();
         restore();
-        System.out.println("PromiseTests: " + checks + " checks, " + wrong + " wrong");
-        if (wrong != 0) {
-            System.exit(1);
-        }
-    }
-
-    private static void due(Object got, Object want) {
-        checks++;
-        if (!want.equals(got)) {
-            wrong++;
-            StackTraceElement[] trace = new Throwable().getStackTrace();
-            int line = 0;
-            for (StackTraceElement frame : trace) {
-                if (!frame.getMethodName().startsWith("due")) {
-                    line = frame.getLineNumber();
-                    break;
-                }
-            }
-            System.out.println(promise + ", line " + line + ": answered " + got + ", due is " + want);
-        }
-    }
-
-    private static void dueThrow(Call call, Class<?> want) {
-        Object got;
-        try {
-            got = call.answer();
-        } catch (RuntimeException e) {
-            got = e.getClass();
-        }
-        due(got, want);
-    }
-
-    private static void appendText(ReductionFinder x, String text) {
-        for (int at = 0; at < text.length(); at++) {
-            x.append(text.charAt(at));
-        }
-    }
-
-    private static int loadText(ReductionFinder x, String text) {
-        appendText(x, text);
-        return x.load();
-    }
-
-    private static ReductionFinder loop(String text) {
-        ReductionFinder x = new ReductionFinder();
-        loadText(x, text);
-        return x;
-    }
-
-    private static void setElements(ReductionFinder x, int array, int... values) {
-        for (int i = 0; i < values.length; i++) {
-            x.setElement(array, i, values[i]);
-        }
-    }
-
-    private static String nodesOf(ReductionFinder x, int variable) {
-        StringBuilder codes = new StringBuilder();
-        int count = x.open(variable);
-        for (int at = 0; at < count; at++) {
-            codes.append(at == 0 ? "" : " ").append(x.next());
-        }
-        return codes.toString();
-    }
-
-    private static Void nothing() {
-        return null;
+        tellAll("PromiseTests");
     }
 
     private static void newObject() {
-        promise = "promise 1";
+        sentence("promise 1");
         ReductionFinder x = new ReductionFinder();
         due(x.statements(), 0);
         due(x.faultPosition(), -1);
@@ -143,7 +62,7 @@ public final class PromiseTests {
     }
 
     private static void append() {
-        promise = "promise 2";
+        sentence("promise 2");
         ReductionFinder x = new ReductionFinder();
         due(x.append(0), 0);
         due(x.append(('s' << 24) | ('=' << 16) | ('1' << 8) | '2'), 4);
@@ -175,7 +94,7 @@ public final class PromiseTests {
     }
 
     private static void load() {
-        promise = "promise 3";
+        sentence("promise 3");
         ReductionFinder x = new ReductionFinder();
         dueThrow(x::load, ARGUMENT);
         due(loadText(x, "s=1;"), 1);
@@ -245,7 +164,7 @@ public final class PromiseTests {
     }
 
     private static void faultPosition() {
-        promise = "promise 4";
+        sentence("promise 4");
         dueFault("s=1;", -1);
         dueFault("s", 1);
         dueFault("s=", 2);
@@ -318,7 +237,7 @@ public final class PromiseTests {
     }
 
     private static void statements() {
-        promise = "promise 5";
+        sentence("promise 5");
         ReductionFinder x = loop("s=1;s=2;s=3;");
         due(x.statements(), 3);
         dueThrow(() -> loadText(x, "s=1;t"), ARGUMENT);
@@ -328,7 +247,7 @@ public final class PromiseTests {
     }
 
     private static void setMode() {
-        promise = "promise 6";
+        sentence("promise 6");
         ReductionFinder x = new ReductionFinder();
         due(x.setMode(1), 0);
         dueThrow(() -> x.setMode(2), ARGUMENT);
@@ -339,7 +258,7 @@ public final class PromiseTests {
     }
 
     private static void setCount() {
-        promise = "promise 7";
+        sentence("promise 7");
         ReductionFinder x = new ReductionFinder();
         due(x.setCount(16), 0);
         dueThrow(() -> x.setCount(17), ARGUMENT);
@@ -350,7 +269,7 @@ public final class PromiseTests {
     }
 
     private static void setElement() {
-        promise = "promise 8";
+        sentence("promise 8");
         ReductionFinder x = new ReductionFinder();
         due(x.setElement(2, 15, 99), 0);
         due(x.setElement(2, 15, -99), 99);
@@ -367,7 +286,7 @@ public final class PromiseTests {
     }
 
     private static void fill() {
-        promise = "promise 9";
+        sentence("promise 9");
         ReductionFinder x = new ReductionFinder();
         // The first draw from 0 is 1013904223, of which 3960563 are left; 3960563 % 199 is 65.
         int sum = x.fill(1, 0);
@@ -393,7 +312,7 @@ public final class PromiseTests {
     }
 
     private static void element() {
-        promise = "promise 10";
+        sentence("promise 10");
         ReductionFinder x = new ReductionFinder();
         x.setElement(0, 3, 7);
         due(x.element(0, 3), 7);
@@ -406,7 +325,7 @@ public final class PromiseTests {
     }
 
     private static void setInitial() {
-        promise = "promise 11";
+        sentence("promise 11");
         ReductionFinder x = new ReductionFinder();
         due(x.setInitial(7, 999), 0);
         due(x.setInitial(7, -999), 999);
@@ -424,7 +343,7 @@ public final class PromiseTests {
     }
 
     private static void kind() {
-        promise = "promise 12";
+        sentence("promise 12");
         dueKind("s=1;", 1, 0);
         dueKind("s=t;", 1, 0);
         dueKind("s=1;", 0, 1);
@@ -462,7 +381,7 @@ public final class PromiseTests {
     }
 
     private static void operator() {
-        promise = "promise 13";
+        sentence("promise 13");
         String[] steps = {"s+1", "1*s", "s&1", "1|s", "s^1", "min(1,s)", "max(s,1)"};
         for (int operator = 0; operator < 7; operator++) {
             due(loop("s=" + steps[operator] + ";").operator(0), operator);
@@ -481,7 +400,7 @@ public final class PromiseTests {
     }
 
     private static void terms() {
-        promise = "promise 14";
+        sentence("promise 14");
         due(loop("s=s;").terms(0), 0);
         due(loop("s=s+1;").terms(0), 1);
         due(loop("s=s+1+t*u;").terms(0), 2);
@@ -501,7 +420,7 @@ public final class PromiseTests {
     }
 
     private static void depends() {
-        promise = "promise 15";
+        sentence("promise 15");
         ReductionFinder x = loop("s=t+z;u=s*u;t=1;v=t;");
         due(x.depends(0), 130);
         due(x.depends(2), 134);
@@ -513,7 +432,7 @@ public final class PromiseTests {
     }
 
     private static void nodes() {
-        promise = "promise 16";
+        sentence("promise 16");
         ReductionFinder x = loop("s=t+1;u=s*s;v=if(u,1,a[i]);s=5;");
         due(x.nodes(0), 1);
         due(x.nodes(1), 1);
@@ -524,7 +443,7 @@ public final class PromiseTests {
     }
 
     private static void height() {
-        promise = "promise 17";
+        sentence("promise 17");
         ReductionFinder x = loop("s=t+1;u=s*s;v=if(1,1,u);w=if(u,1,1);x=if(1,u,1);y=1-(2-(3-4));");
         due(x.height(0), 2);
         due(x.height(1), 1);
@@ -538,7 +457,7 @@ public final class PromiseTests {
     }
 
     private static void open() {
-        promise = "promise 18";
+        sentence("promise 18");
         ReductionFinder x = loop("s=s+1;t=t*2-3;");
         due(x.open(1), 5);
         due(x.next(), 307);
@@ -552,7 +471,7 @@ public final class PromiseTests {
     }
 
     private static void hasNext() {
-        promise = "promise 19";
+        sentence("promise 19");
         ReductionFinder x = loop("s=s+1;");
         dueThrow(x::hasNext, STATE);
         x.open(1);
@@ -572,7 +491,7 @@ public final class PromiseTests {
     }
 
     private static void next() {
-        promise = "promise 20";
+        sentence("promise 20");
         ReductionFinder x = loop("s=if(z,min(a[i],0)+max(b[i],99),c[i]*s-(t&u|v^w));");
         dueThrow(x::next, STATE);
         due(nodesOf(x, 0), "308 107 300 305 200 0 306 201 99 307 301 202 100 304 303 302 101 102 103 104");
@@ -590,7 +509,7 @@ public final class PromiseTests {
     }
 
     private static void isParallel() {
-        promise = "promise 21";
+        sentence("promise 21");
         due(new ReductionFinder().isParallel(), true);
         due(loop("s=1;t=t+s;").isParallel(), true);
         due(loop("s=s+1;t=s;").isParallel(), false);
@@ -599,7 +518,7 @@ public final class PromiseTests {
     }
 
     private static void isExact() {
-        promise = "promise 22";
+        sentence("promise 22");
         ReductionFinder x = loop("s=1;t=t+1;u=min(u,2);v=max(v,3);w=w*w;x=x+1;y=x;");
         boolean[][] want = {
             {true, true, true, true, false, false, true, true},
@@ -619,7 +538,7 @@ public final class PromiseTests {
     }
 
     private static void executeSequence() {
-        promise = "promise 23, order 0";
+        sentence("promise 23, order 0");
         ReductionFinder x = loop("s=s*3+a[i];t=s-t;u=if(a[i],u,u^7);");
         setElements(x, 0, 1, 0, -2, 5);
         x.setInitial(0, 2);
@@ -646,7 +565,7 @@ public final class PromiseTests {
     }
 
     private static void executeParts() {
-        promise = "promise 23, orders 1 to 3";
+        sentence("promise 23, orders 1 to 3");
         // Floats tell the orders apart: 1.0e30f as a limit loses what comes after it.
         String grown = "99*99*99*99*99*99*99*99*99*99*99*99*99*99*99*99";
         ReductionFinder x = loop("t=" + grown + ";s=s+if(a[i],if(a[i]-1,0-t,t),b[i]);");
@@ -710,7 +629,7 @@ public final class PromiseTests {
     }
 
     private static void executeOthers() {
-        promise = "promise 23, all kinds";
+        sentence("promise 23, all kinds");
         for (int n = 0; n <= 16; n++) {
             dueSameInAllOrders(n);
         }
@@ -734,7 +653,7 @@ public final class PromiseTests {
     }
 
     private static void executeFloats() {
-        promise = "promise 23, mode 1";
+        sentence("promise 23, mode 1");
         ReductionFinder x = loop("s=s*99;t=t*(0-99);u=min(u,a[i]);v=max(v,b[i]);w=if(a[i],1,2);");
         x.setMode(1);
         x.setInitial(0, 1);
@@ -773,7 +692,7 @@ public final class PromiseTests {
     }
 
     private static void executeWrong() {
-        promise = "promise 23, wrong calls";
+        sentence("promise 23, wrong calls");
         ReductionFinder x = loop("s=s|1;t=s;");
         dueThrow(() -> x.execute(-1, 1), ARGUMENT);
         dueThrow(() -> x.execute(4, 1), ARGUMENT);
@@ -801,7 +720,7 @@ public final class PromiseTests {
     }
 
     private static void result() {
-        promise = "promise 24";
+        sentence("promise 24");
         ReductionFinder x = loop("s=s+1;");
         dueThrow(() -> x.result(0), STATE);
         dueThrow(() -> x.result(8), INDEX);
@@ -831,7 +750,7 @@ public final class PromiseTests {
     }
 
     private static void resultFloat() {
-        promise = "promise 25";
+        sentence("promise 25");
         ReductionFinder x = loop("s=s+1;");
         dueThrow(() -> x.resultFloat(0), STATE);
         dueThrow(() -> x.resultFloat(8), INDEX);
@@ -855,7 +774,7 @@ public final class PromiseTests {
     }
 
     private static void difference() {
-        promise = "promise 26";
+        sentence("promise 26");
         ReductionFinder x = loop("s=s+a[i];");
         dueThrow(() -> x.difference(0), STATE);
         dueThrow(() -> x.difference(8), INDEX);
@@ -888,7 +807,7 @@ public final class PromiseTests {
     }
 
     private static void cost() {
-        promise = "promise 27";
+        sentence("promise 27");
         ReductionFinder x = loop("s=s+a[i]*2;t=t-1;u=if(a[i],1,min(2,3));");
         // 2 reductions and 5 operators and functions
         due(x.cost(0, 0), 0);
@@ -922,7 +841,7 @@ public final class PromiseTests {
     }
 
     private static void cheapest() {
-        promise = "promise 28";
+        sentence("promise 28");
         ReductionFinder x = loop("s=s+1;");
         due(x.cheapest(), 0);
         x.setCount(1);
@@ -958,7 +877,7 @@ public final class PromiseTests {
     }
 
     private static void save() {
-        promise = "promise 29";
+        sentence("promise 29");
         ReductionFinder x = loop("s=s+1;");
         x.setMode(1);
         x.setCount(3);
@@ -985,12 +904,9 @@ public final class PromiseTests {
     }
 
     private static void restore() {
-        promise = "promise 30";
+        sentence("promise 30");
         ReductionFinder x = loop("s=s+1;");
-        dueThrow(() -> {
-            x.restore();
-            return nothing();
-        }, STATE);
+        dueThrow(() -> restore(x), STATE);
         x.setMode(1);
         x.setCount(3);
         x.fill(0, 1);
