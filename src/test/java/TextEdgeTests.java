@@ -33,6 +33,7 @@ public final class TextEdgeTests extends Checks {
         loadReplacesAllStatements();
         loadAtMost8Statements();
         loadAtMost200Nodes();
+        cursorOver200Nodes();
         loadCountsNodesAfterEachStatement();
         loadKeepsStatements();
         loadChecksTheTextFirst();
@@ -440,28 +441,34 @@ public final class TextEdgeTests extends Checks {
     private static void loadAtMost200Nodes() {
         sentence("after some statement the expression of a variable then would have more than 200 nodes");
         // s has 63 nodes after five doublings, and 127 after six.
-        ReductionFinder x = loop(doubled(5) + "t=if(s,s,s)+1+2+3+4+5;");
+        ReductionFinder x = loop(doubled(5) + "t=s+s+s+1+2+3+4;");
         due(x.nodes(0), 63);
-        due(x.nodes(1), 200);
-        due(x.open(1), 200);
-        for (int at = 0; at < 200; at++) {
-            due(x.hasNext(), true);
-            x.next();
-        }
-        due(x.hasNext(), false);
-        dueThrow(x::next, NO_ELEMENT);
-        due(loadText(x, doubled(5) + "t=s+s+s+1+2+3+4;"), 6);
         due(x.nodes(1), 199);
         dueThrow(() -> loadText(x, doubled(5) + "t=s+s+s+1+2+3+4+5;"), STATE);
         due(x.nodes(1), 199);
+        due(loadText(x, doubled(5) + "t=if(s,s,s)+1+2+3+4+5;"), 6);
+        due(x.nodes(1), 200);
         dueThrow(() -> loadText(x, doubled(5) + "t=if(s,s,s)+1+2+3+4+5+6;"), STATE);
         due(loadText(x, doubled(6)), 6);
         due(x.nodes(0), 127);
         dueThrow(() -> loadText(x, doubled(7)), STATE);
         dueThrow(() -> loadText(x, doubled(8)), STATE);
-        dueThrow(() -> loadText(x, doubled(6) + "t=s+s+s+s+s+s+s+s+s+s+s+s+s+s+s+s+s+s+s+s+s+s+s+s+s+s+s+s+s;"), STATE);
+        dueThrow(() -> loadText(x, doubled(6) + "t=s" + repeated("+s", 30) + ";"), STATE);
         due(x.nodes(0), 127);
         due(x.faultPosition(), -1);
+    }
+
+    private static void cursorOver200Nodes() {
+        sentence("an end expression of 200 nodes, gone through to its end");
+        ReductionFinder x = loop(doubled(5) + "t=if(s,s,s)+1+2+3+4+5;");
+        due(x.open(1), 200);
+        for (int at = 0; at < 200; at++) {
+            due(x.hasNext(), true);
+            int code = x.next();
+            due(code, at < 5 ? 300 : at == 5 ? 308 : at < 195 ? code : at - 194);
+        }
+        due(x.hasNext(), false);
+        dueThrow(x::next, NO_ELEMENT);
     }
 
     private static void loadCountsNodesAfterEachStatement() {
