@@ -39,9 +39,11 @@ public final class OrderEdgeTests extends Checks {
         differenceOfNow();
         differenceAsDouble();
         differenceOfFloats();
+        differenceOfZeros();
         differenceLeavesResults();
         differenceRefused();
         differenceOfBits();
+        callsUpTo512();
         tellAll("OrderEdgeTests");
     }
 
@@ -746,6 +748,19 @@ public final class OrderEdgeTests extends Checks {
         due(z.difference(0), 2.0);
     }
 
+    private static void differenceOfZeros() {
+        sentence("the absolute value of the difference of both values: of zeros of both signs, too");
+        ReductionFinder x = loop("s=0*a[i];", 1, 1);
+        for (int first = -1; first <= 1; first++) {
+            for (int second = -1; second <= 1; second++) {
+                x.setElement(0, 0, first);
+                x.execute(0, 0);
+                x.setElement(0, 0, second);
+                due(x.difference(0), 0.0);
+            }
+        }
+    }
+
     private static void differenceLeavesResults() {
         sentence("difference: the results of the latest execution stay");
         ReductionFinder x = loop("s=s+a[i];", 0, 2);
@@ -797,5 +812,18 @@ public final class OrderEdgeTests extends Checks {
         due(x.difference(0), 0.0);
         loadText(x, "s=s|1;");
         dueThrow(() -> x.difference(0), STATE);
+    }
+
+    private static void callsUpTo512() {
+        sentence("An object is used for at most 512 calls after it has been made");
+        // Five calls of append, and then one each of load, setMode, setCount and setElement.
+        ReductionFinder x = loop("s=s+a[i]+b[i]*c[i];", 0, 16);
+        x.setElement(0, 15, 7);
+        for (int call = 10; call <= 512; call += 2) {
+            due(x.execute(call / 2 % 4, 8), 1);
+            if (call < 512) {
+                due(x.result(0), 7);
+            }
+        }
     }
 }

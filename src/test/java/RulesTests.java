@@ -1,4 +1,5 @@
 import java.io.IOException;
+import java.lang.reflect.Array;
 import java.lang.reflect.Constructor;
 import java.lang.reflect.Field;
 import java.lang.reflect.Method;
@@ -6,6 +7,8 @@ import java.lang.reflect.Modifier;
 import java.nio.file.Files;
 import java.nio.file.Path;
 import java.util.Arrays;
+import java.util.IdentityHashMap;
+import java.util.Map;
 import java.util.Set;
 import java.util.TreeSet;
 import java.util.regex.Matcher;
@@ -55,10 +58,17 @@ public final class RulesTests {
         "\\bSystem\\.(?!arraycopy)", "\\bMath\\.(?!min|max)", "\\bvar\\b", "\\bhashCode\\b", "\\btoString\\b",
     };
 
-    public static void main(String[] args) throws IOException {
+    private static final int MAX_OBJECTS = 150;
+    private static final int MAX_ELEMENTS = 8000;
+    private static final int MAX_METHOD_LINES = 60;
+
+    public static void main(String[] args) throws IOException, ReflectiveOperationException {
         checkFace();
         checkNested();
-        checkSource(Files.readString(Path.of("src/main/java/ReductionFinder.java")));
+        checkRoom();
+        String source = Files.readString(Path.of("src/main/java/ReductionFinder.java"));
+        checkSource(source);
+        checkMethods(source);
         System.out.println("RulesTests: " + checks + " checks, " + wrong + " wrong");
         if (wrong != 0) {
             System.exit(1);
@@ -134,6 +144,67 @@ public final class RulesTests {
             }
         }
         check(count <= 20, own + " has too many fields");
+    }
+
+    /** All objects live in one room, so that what a finder is made of is counted; its calls make no more. */
+    private static void checkRoom() throws ReflectiveOperationException {
+        Map<Object, Integer> sizes = new IdentityHashMap<>();
+        count(new ReductionFinder(), sizes);
+        int elements = 0;
+        for (int size : sizes.values()) {
+            elements += size;
+        }
+        check(sizes.size() <= MAX_OBJECTS, "a finder has " + sizes.size() + " objects");
+        check(elements <= MAX_ELEMENTS, "a finder has " + elements + " fields and elements");
+    }
+
+    private static void count(Object object, Map<Object, Integer> sizes) throws ReflectiveOperationException {
+        if (object == null || sizes.containsKey(object)) {
+            return;
+        }
+        Class<?> type = object.getClass();
+        if (type.isArray()) {
+            sizes.put(object, Array.getLength(object));
+            for (int at = 0; at < Array.getLength(object) && !type.getComponentType().isPrimitive(); at++) {
+                count(Array.get(object, at), sizes);
+            }
+            return;
+        }
+        int fields = 0;
+        sizes.put(object, 0);
+        for (Class<?> own = type; own != Object.class; own = own.getSuperclass()) {
+            for (Field field : own.getDeclaredFields()) {
+                if (Modifier.isStatic(field.getModifiers())) {
+                    continue;
+                }
+                fields++;
+                field.setAccessible(true);
+                if (!field.getType().isPrimitive()) {
+                    count(field.get(object), sizes);
+                }
+            }
+        }
+        sizes.put(object, fields);
+    }
+
+    private static void checkMethods(String source) {
+        String[] lines = source.split("\n");
+        String begin = "(    |        )(?!for|if|while|switch|private static final class|private abstract)\\w.*[({,)].*";
+        for (int at = 0; at < lines.length; at++) {
+            String line = lines[at];
+            boolean making = line.contains("new ") && !line.contains("throw new ") && !line.trim().startsWith("//");
+            boolean inConstructor = line.contains("private final ") || line.contains("programs[slot] = new Program()");
+            check(!making || inConstructor, "line " + (at + 1) + " makes an object: " + line.trim());
+            if (!line.matches(begin) || !line.endsWith("{")) {
+                continue;
+            }
+            String close = line.replaceAll("\\S.*", "") + "}";
+            int end = at;
+            while (end < lines.length && !lines[end].equals(close)) {
+                end++;
+            }
+            check(end - at < MAX_METHOD_LINES, "the method of line " + (at + 1) + " has " + (end - at) + " lines");
+        }
     }
 
     private static void checkSource(String source) {

@@ -31,6 +31,7 @@ public final class TextEdgeTests extends Checks {
         fullText();
         loadEmptiesTheBuffer();
         loadReplacesAllStatements();
+        loadAgainAndAgain();
         loadAtMost8Statements();
         loadAtMost200Nodes();
         cursorOver200Nodes();
@@ -422,6 +423,32 @@ public final class TextEdgeTests extends Checks {
         x.setCount(1);
         due(x.execute(0, 0), 1);
         due(x.cost(0, 0), 0);
+    }
+
+    private static void loadAgainAndAgain() {
+        sentence("replace all statements: nothing is left of any text that was loaded before");
+        for (int saves = 0; saves <= 1; saves++) {
+            ReductionFinder x = new ReductionFinder();
+            x.setCount(1);
+            for (int round = 0; round < 4; round++) {
+                due(loadText(x, "s=s*s&t;t=t+1;u=u+1;v=2;"), 4);
+                due(x.isParallel(), false);
+                if (saves == 1) {
+                    x.save();
+                }
+                due(loadText(x, "s=s*s^t;w=w+2;"), 2);
+                due(loadText(x, "x=x+3;"), 1);
+                for (int variable = 0; variable < 8; variable++) {
+                    due(x.kind(variable), variable == 5 ? 2 : 0);
+                }
+                due(x.isParallel(), true);
+                due(x.cost(0, 0), 1);
+                due(x.cost(1, 1), 2);
+                x.setMode(1);
+                due(x.execute(0, 0), 1);
+                x.setMode(0);
+            }
+        }
     }
 
     private static void loadAtMost8Statements() {
